@@ -261,7 +261,7 @@ public final class QuarrelBridges {
         if (now.isReconciled(c)) {
             return NONE;
         }
-        tryOpening(c, b, t);
+        attempt(c, b, t);
         if (!quarrel.opened) {
             return NONE;
         }
@@ -529,7 +529,7 @@ public final class QuarrelBridges {
         if (c == NONE) {
             return false;
         }
-        tryOpening(c, b, now.themeOf(c));
+        attempt(c, b, now.themeOf(c));
         now.spendMinutes(quarrel.minutes);
         now.leave(c, quarrel.left);
         if (quarrel.reconciled) {
@@ -538,7 +538,7 @@ public final class QuarrelBridges {
         return quarrel.opened;
     }
 
-    private void tryOpening(int c, int b, int t) {
+    private void attempt(int c, int b, int t) {
         quarrel.run(now.grievanceOf(c), town.forceOf(c, t), town.snow, at(town.needs, b));
     }
 
@@ -550,7 +550,7 @@ public final class QuarrelBridges {
             return NONE;
         }
         for (int t = 0; t < town.themes; t++) {
-            tryOpening(c, b, t);
+            attempt(c, b, t);
             boolean quicker = quarrel.minutes < minutes || (quarrel.minutes == minutes && quarrel.cost < cost);
             if (quarrel.opened && (best == NONE || quicker)) {
                 best = t;
@@ -566,7 +566,7 @@ public final class QuarrelBridges {
         if (t == NONE) {
             return NONE;
         }
-        tryOpening(c, b, t);
+        attempt(c, b, t);
         return quarrel.cost;
     }
 
