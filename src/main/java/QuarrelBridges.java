@@ -754,7 +754,7 @@ public final class QuarrelBridges {
         }
 
         private int letter() {
-            return place < length ? at(text, place) : END;
+            return place >= 0 && place < length && place < text.length ? text[place] : END;
         }
 
         private boolean isFigure(int letter) {

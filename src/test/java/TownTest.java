@@ -83,99 +83,99 @@ public final class TownTest {
     }
 
     private static void townsThatStand() {
-        stands("", 0);
-        stands("   ", 0);
-        stands("b1;", 1);
-        stands("b001;", 1);
-        stands("  b60 ;  ", 1);
-        stands("b1,1,1,1,1,1;", 6);
-        stands("b1;t5;c99 9,9,9,9,9;", 1);
-        stands("b1;t1;s0;c0 0;v0 300;", 1);
-        stands("b1;" + SIX_COUPLES + SEVEN_BARGES, 1);
-        stands("b1,1;v1 1;t2;", 2);
-        stands("b1;s1;v0 1;c1 1;c2 3;s".substring(0, 21), 1);
+        check.stands("", 0);
+        check.stands("   ", 0);
+        check.stands("b1;", 1);
+        check.stands("b001;", 1);
+        check.stands("  b60 ;  ", 1);
+        check.stands("b1,1,1,1,1,1;", 6);
+        check.stands("b1;t5;c99 9,9,9,9,9;", 1);
+        check.stands("b1;t1;s0;c0 0;v0 300;", 1);
+        check.stands("b1;" + SIX_COUPLES + SEVEN_BARGES, 1);
+        check.stands("b1,1;v1 1;t2;", 2);
+        check.stands("b1;s1;v0 1;c1 1;c2 3;s".substring(0, 21), 1);
     }
 
     private static void faultsThatCannotStand() {
-        faulty("x", 1, 0);
-        faulty("1", 1, 0);
-        faulty(";", 1, 0);
-        faulty("\t", 1, 0);
-        faulty("t1;b1;", 1, 0);
-        faulty("  s1;", 1, 2);
-        faulty("c1 1;", 1, 0);
-        faulty("v0 1;", 1, 0);
-        faulty("B1;", 1, 0);
-        faulty("b", 1, 1);
-        faulty("b  ", 1, 3);
-        faulty("b;", 1, 1);
-        faulty("b1", 1, 2);
-        faulty("b1  ", 1, 4);
-        faulty("b1b", 1, 2);
-        faulty("b1,", 1, 3);
-        faulty("b1,;", 1, 3);
-        faulty("b1 2;", 1, 3);
-        faulty("b1 1000;", 1, 3);
-        faulty("b1,1,1,1,1,1 ,1;", 1, 13);
-        faulty("b1,1,1,1,1,1,1000;", 1, 12);
-        faulty("b1;;", 1, 3);
-        faulty("b1;z", 1, 3);
-        faulty("b1;t", 1, 4);
-        faulty("b1;t,", 1, 4);
-        faulty("b1;t1,", 1, 5);
-        faulty("b1;c1", 1, 5);
-        faulty("b1;c1;", 1, 5);
-        faulty("b1;c1,1;", 1, 5);
-        faulty("b1;c1 ;", 1, 6);
-        faulty("b1;c1 1", 1, 7);
-        faulty("b1;c1 1 ,1;", 1, 8);
-        faulty("b1;c1 1 1;", 1, 8);
-        faulty("b1;t2;c1 1;", 1, 10);
-        faulty("b1;t2;c1 1 ;", 1, 11);
-        faulty("b1;t2;c1 1 1;", 1, 11);
-        faulty("b1;t2;c1 1", 1, 10);
-        faulty("b1;t2;c1 1,1,1;", 1, 12);
-        faulty("b1;t2;c1 1,;", 1, 11);
-        faulty("b1;v0;", 1, 5);
-        faulty("b1;v0,1;", 1, 5);
-        faulty("b1;v0 1", 1, 7);
-        faulty("b1;s", 1, 4);
-        faulty("b1;s;", 1, 4);
-        faulty("b1;s1", 1, 5);
-        faulty("b1;-", 1, 3);
+        check.faulty("x", 1, 0);
+        check.faulty("1", 1, 0);
+        check.faulty(";", 1, 0);
+        check.faulty("\t", 1, 0);
+        check.faulty("t1;b1;", 1, 0);
+        check.faulty("  s1;", 1, 2);
+        check.faulty("c1 1;", 1, 0);
+        check.faulty("v0 1;", 1, 0);
+        check.faulty("B1;", 1, 0);
+        check.faulty("b", 1, 1);
+        check.faulty("b  ", 1, 3);
+        check.faulty("b;", 1, 1);
+        check.faulty("b1", 1, 2);
+        check.faulty("b1  ", 1, 4);
+        check.faulty("b1b", 1, 2);
+        check.faulty("b1,", 1, 3);
+        check.faulty("b1,;", 1, 3);
+        check.faulty("b1 2;", 1, 3);
+        check.faulty("b1 1000;", 1, 3);
+        check.faulty("b1,1,1,1,1,1 ,1;", 1, 13);
+        check.faulty("b1,1,1,1,1,1,1000;", 1, 12);
+        check.faulty("b1;;", 1, 3);
+        check.faulty("b1;z", 1, 3);
+        check.faulty("b1;t", 1, 4);
+        check.faulty("b1;t,", 1, 4);
+        check.faulty("b1;t1,", 1, 5);
+        check.faulty("b1;c1", 1, 5);
+        check.faulty("b1;c1;", 1, 5);
+        check.faulty("b1;c1,1;", 1, 5);
+        check.faulty("b1;c1 ;", 1, 6);
+        check.faulty("b1;c1 1", 1, 7);
+        check.faulty("b1;c1 1 ,1;", 1, 8);
+        check.faulty("b1;c1 1 1;", 1, 8);
+        check.faulty("b1;t2;c1 1;", 1, 10);
+        check.faulty("b1;t2;c1 1 ;", 1, 11);
+        check.faulty("b1;t2;c1 1 1;", 1, 11);
+        check.faulty("b1;t2;c1 1", 1, 10);
+        check.faulty("b1;t2;c1 1,1,1;", 1, 12);
+        check.faulty("b1;t2;c1 1,;", 1, 11);
+        check.faulty("b1;v0;", 1, 5);
+        check.faulty("b1;v0,1;", 1, 5);
+        check.faulty("b1;v0 1", 1, 7);
+        check.faulty("b1;s", 1, 4);
+        check.faulty("b1;s;", 1, 4);
+        check.faulty("b1;s1", 1, 5);
+        check.faulty("b1;-", 1, 3);
     }
 
     private static void faultsOfNumbers() {
-        faulty("b0;", 2, 1);
-        faulty("b 61;", 2, 2);
-        faulty("b1,0;", 2, 3);
-        faulty("b0001;", 2, 1);
-        faulty("b1000", 2, 1);
-        faulty("b4294967297;", 2, 1);
-        faulty("b1;t0;", 2, 4);
-        faulty("b1;t6;", 2, 4);
-        faulty("b1;c100 1;", 2, 4);
-        faulty("b1;c1 10;", 2, 6);
-        faulty("b1;c405;", 2, 4);
-        faulty("b1;t2;c1 1,10;", 2, 11);
-        faulty("b1;v1 1;", 2, 4);
-        faulty("b1,1;v2 1;", 2, 6);
-        faulty("b1;v0 0;", 2, 6);
-        faulty("b1;v0 301;", 2, 6);
-        faulty("b1;s2;", 2, 4);
-        faulty("b1;s0000;", 2, 4);
+        check.faulty("b0;", 2, 1);
+        check.faulty("b 61;", 2, 2);
+        check.faulty("b1,0;", 2, 3);
+        check.faulty("b0001;", 2, 1);
+        check.faulty("b1000", 2, 1);
+        check.faulty("b4294967297;", 2, 1);
+        check.faulty("b1;t0;", 2, 4);
+        check.faulty("b1;t6;", 2, 4);
+        check.faulty("b1;c100 1;", 2, 4);
+        check.faulty("b1;c1 10;", 2, 6);
+        check.faulty("b1;c405;", 2, 4);
+        check.faulty("b1;t2;c1 1,10;", 2, 11);
+        check.faulty("b1;v1 1;", 2, 4);
+        check.faulty("b1,1;v2 1;", 2, 6);
+        check.faulty("b1;v0 0;", 2, 6);
+        check.faulty("b1;v0 301;", 2, 6);
+        check.faulty("b1;s2;", 2, 4);
+        check.faulty("b1;s0000;", 2, 4);
     }
 
     private static void faultsOfTooMany() {
-        faulty("b1;b", 3, 3);
-        faulty("b1;  b1;", 3, 5);
-        faulty("b1;t1;t1;", 3, 6);
-        faulty("b1;c1 1;t1;", 3, 8);
-        faulty("b1;s0;s0;", 3, 6);
-        faulty("b1;" + SIX_COUPLES + "c", 3, 33);
-        faulty("b1;" + SIX_COUPLES + "v0 1;c1 1;", 3, 38);
-        faulty("b1;" + SEVEN_BARGES + "v", 3, 38);
-        faulty("b1;" + SIX_COUPLES + "tx", 3, 33);
+        check.faulty("b1;b", 3, 3);
+        check.faulty("b1;  b1;", 3, 5);
+        check.faulty("b1;t1;t1;", 3, 6);
+        check.faulty("b1;c1 1;t1;", 3, 8);
+        check.faulty("b1;s0;s0;", 3, 6);
+        check.faulty("b1;" + SIX_COUPLES + "c", 3, 33);
+        check.faulty("b1;" + SIX_COUPLES + "v0 1;c1 1;", 3, 38);
+        check.faulty("b1;" + SEVEN_BARGES + "v", 3, 38);
+        check.faulty("b1;" + SIX_COUPLES + "tx", 3, 33);
     }
 
     private static void faultChangesNothing() {
@@ -258,20 +258,5 @@ public final class TownTest {
         check.due("barge -1", x.barge(-1, 7), UNKNOWN);
         check.due("barge what 5", x.barge(0, 5), OUTSIDE);
         check.due("barge what -1", x.barge(0, -1), OUTSIDE);
-    }
-
-    private static void stands(String text, int bridges) {
-        QuarrelBridges x = new QuarrelBridges();
-        Check.feedAll(x, text);
-        check.due("town of '" + text + "'", x.town(), bridges);
-        check.due("fault of '" + text + "'", x.fault(), -1);
-    }
-
-    private static void faulty(String text, int kind, int where) {
-        QuarrelBridges x = new QuarrelBridges();
-        Check.feedAll(x, text);
-        check.due("town of '" + text + "'", x.town(), -10 - kind);
-        check.due("fault of '" + text + "'", x.fault(), where);
-        check.due("text is empty then", x.told(5), 0);
     }
 }
