@@ -6,6 +6,9 @@ public final class TextEdgeTest {
     private static final int NOT = QuarrelBridges.NOT;
     private static final int FULL = QuarrelBridges.FULL;
 
+    private static final String LARGE =
+        "b60,60,60,60,60,60;t5;s1;c99 9,9,9,9,9;c4 9,9,9,9,9;" + "c99 9,9,9,9,9;".repeat(4) + "v0 300;".repeat(7);
+
     private static final Check check = new Check();
 
     public static void main(String[] args) {
@@ -540,8 +543,6 @@ public final class TextEdgeTest {
         check.due("seed", x.seed(0), 5);
     }
 
-    private static final String LARGE = "b60,60,60,60,60,60;t5;s1;" + "c99 9,9,9,9,9;".repeat(6) + "v0 300;".repeat(7);
-
     private static void small(String what, QuarrelBridges x) {
         Check.feedAll(x, "b5;c20 5;v0 9;");
         check.due("town " + what, x.town(), 1);
@@ -554,6 +555,7 @@ public final class TextEdgeTest {
         check.due("fleet " + what, x.fleet(4), 1);
         check.due("fleet of more " + what, x.fleet(5), NONE);
         check.due("lasts: 7, 6, 5, 2 " + what, x.lasts(0, 0), 4);
+        check.due("toldHer by 4 of a second couple " + what, x.toldHer(0, 1, NONE), 0);
         check.due("a second bridge " + what, x.bridge(1, 0), UNKNOWN);
         check.due("a second theme " + what, x.force(0, 1), UNKNOWN);
         check.due("a second couple " + what, x.couple(1, 0), UNKNOWN);

@@ -93,7 +93,7 @@ public final class TownTest {
         check.stands("b1;t1;s0;c0 0;v0 300;", 1);
         check.stands("b1;" + SIX_COUPLES + SEVEN_BARGES, 1);
         check.stands("b1,1;v1 1;t2;", 2);
-        check.stands("b1;s1;v0 1;c1 1;c2 3;s".substring(0, 21), 1);
+        check.stands("b1;s1;v0 1;c1 1;c2 3;", 1);
     }
 
     private static void faultsThatCannotStand() {
